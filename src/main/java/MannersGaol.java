@@ -288,7 +288,7 @@ public final class MannersGaol {
             return BAD;
         }
         tried.copy(now);
-        return noneIfLate(tried.timeTo(inmate, room));
+        return noneIfLate(tried.timeTo(inmate, room, LAST));
     }
 
     public int knot(int inmate) {
@@ -319,8 +319,7 @@ public final class MannersGaol {
         for (int v = 0; v <= TOP_GRACE; v++) {
             tried.copy(now);
             tried.graces[inmate] = v;
-            tried.passOccasions(n);
-            if (tried.isOut(inmate)) {
+            if (tried.isOutBy(inmate, n)) {
                 return v;
             }
         }
@@ -336,7 +335,7 @@ public final class MannersGaol {
         for (int kind = 0; kind < KINDS; kind++) {
             tried.copy(now);
             tried.kinds[inmate] = kind;
-            int time = tried.timeTo(inmate, OUT);
+            int time = tried.timeTo(inmate, OUT, LAST);
             if (time < soonest) {
                 soonest = time;
                 best = kind;
@@ -354,7 +353,7 @@ public final class MannersGaol {
         for (int room = 0; room < ROOMS; room++) {
             tried.copy(now);
             tried.rites[room] = 0;
-            int time = tried.timeTo(inmate, OUT);
+            int time = tried.timeTo(inmate, OUT, LAST);
             if (time < soonest) {
                 soonest = time;
                 best = room;
@@ -373,7 +372,7 @@ public final class MannersGaol {
             if (host != inmate) {
                 tried.copy(now);
                 tried.hosts[inmate] = host;
-                int time = tried.timeTo(inmate, OUT);
+                int time = tried.timeTo(inmate, OUT, LAST);
                 if (time > latest) {
                     latest = time;
                     best = host;
@@ -686,7 +685,7 @@ public final class MannersGaol {
 
     private int timeNow(int inmate) {
         tried.copy(now);
-        return tried.timeTo(inmate, OUT);
+        return tried.timeTo(inmate, OUT, LAST);
     }
 
     private boolean isOutIfRude(int inmate, int n, int rude) {
@@ -696,8 +695,7 @@ public final class MannersGaol {
                 tried.hosts[i] = NOBODY;
             }
         }
-        tried.passOccasions(n);
-        return tried.isOut(inmate);
+        return tried.isOutBy(inmate, n);
     }
 
     private boolean isFitting(Sheet told, int inmate, int grace) {
@@ -903,15 +901,20 @@ public final class MannersGaol {
             return z >>> 16;
         }
 
-        /** The fewest OCCASIONS behind which one is in a ROOM or farther, or LATE; all goes on meanwhile. */
-        int timeTo(int i, int room) {
-            for (int t = 0; t < LATE; t++) {
+        /** The fewest OCCASIONS (up to last) behind which one is in a ROOM or farther, or LATE; all goes on meanwhile. */
+        int timeTo(int i, int room, int last) {
+            for (int t = 0; t <= last; t++) {
                 if (rooms[i] >= room) {
                     return t;
                 }
                 passOccasions(1);
             }
             return LATE;
+        }
+
+        /** Nobody comes in again, so the way may end as soon as one is OUT. */
+        boolean isOutBy(int i, int n) {
+            return timeTo(i, OUT, n) != LATE;
         }
 
         int rowPart(int i, int what) {

@@ -581,6 +581,16 @@ public final class PromisesTest {
         due("26 1 in two", x.rudeFor(1, 2), 2);
         due("26 2 in two", x.rudeFor(2, 2), 2);
         due("26 nothing changes", x.many(2), 3);
+        // The nun goes if two of the others are gone by her turn: 0 and 1, or 2 with 3 behind it.
+        x = told("inmate in 7 grace 50;inmate in 7 grace 50;inmate in 7 grace 50;inmate in 7 grace 50;nun in 7 grace 8;"
+            + "nun in 7 grace 0;wait 0 for 5;wait 1 for 5;wait 2 for 5;wait 3 for 2;");
+        due("26 the fewest, not the least", x.rudeFor(4, 1), 4);
+        x.await(3, 5);
+        due("26 of several the least", x.rudeFor(4, 1), 3);
+        x.grace(4, 7);
+        due("26 three", x.rudeFor(4, 1), 7);
+        x.grace(4, 5);
+        due("26 too many needed", x.rudeFor(4, 1), NONE);
     }
 
     // Promise 27
@@ -600,6 +610,10 @@ public final class PromisesTest {
         x.bring(0, 8);
         due("27 out", x.graceFor(0, 0), 0);
         due("27 nothing changes", x.of(1, 1), 5);
+        x.rite(7, 99);
+        due("27 99", x.graceFor(1, 1), 99);
+        x.mind(1, 1);
+        due("27 a burglar needs more", x.graceFor(1, 1), NONE);
     }
 
     // Promises 28 to 30
