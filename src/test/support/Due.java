@@ -2,16 +2,26 @@
 final class Due {
     private static int wrong = 0;
     private static int asked = 0;
+    private static String within = "";
 
     private Due() {
+    }
+
+    /** What is asked from now on is part of this test. */
+    static void within(String test) {
+        within = test + ": ";
     }
 
     static void is(String call, long got, long want) {
         asked++;
         if (got != want) {
             wrong++;
-            System.out.println(call + " answered " + got + ", due is " + want);
+            System.out.println(within + call + " answered " + got + ", due is " + want);
         }
+    }
+
+    static int asked() {
+        return asked;
     }
 
     /** Feeds a text, eight bytes at a time. */
