@@ -193,7 +193,8 @@ public final class EdgesOfPromisesTest {
 
     @Edge(of = "Promise 9", says = "One becomes one of another KIND: the KIND that it was. BAD.")
     static void p09_bad() {
-        Run.busyFed(1).outside(BAD, 1, 0, 5, "mind", 0, 0).due(0, "mind", 0, 5).due(5, "mind", 0, 0).due(0, "of", 0, 0);
+        Run.busyFed(1).outside(BAD, 1, 0, 5, "mind", 0, 0).due(0, "mind", 0, 5).due(5, "mind", 0, 5)
+            .due(5, "mind", 0, 0).due(0, "of", 0, 0);
         nobodyIsBad(0, "mind", 0, 5);
     }
 
@@ -620,9 +621,15 @@ public final class EdgesOfPromisesTest {
             .still(BAD, "minds", 0, 99, 2, 2);
     }
 
-    @Edge(of = "Promise 38", says = "-11; -13;")
-    static void p38_nothingThereOrNotBytes() {
+    @Edge(of = "Promise 38", says = "-11;")
+    static void p38_nothingThere() {
         Run x = Run.busyFed(3).still(-11, "minds", 3, 0, 0, 0).still(-11, "minds", 3, -1, 0, 1);
+        x.does("sheet", 3, 0, 0).still(0, "minds", 3, 0, 0, 0).does("sheet", 3, -1, 0).still(-11, "minds", 3, 0, 0, 0);
+    }
+
+    @Edge(of = "Promise 38", says = "-13;")
+    static void p38_notBytes() {
+        Run x = Run.busyFed(3);
         for (int sort = 1; sort <= 3; sort++) {
             x.does("sheet", 3, sort, 3).still(-13, "minds", 3, 0, 0, 0).still(-13, "minds", 3, 4, 0, 1)
                 .still(-13, "minds", 3, -1, 0, 0);
@@ -706,10 +713,15 @@ public final class EdgesOfPromisesTest {
             .due(1, "put", 0, 0, 9);
     }
 
-    @Edge(of = "Promise 40", says = "-11; -12.")
-    static void p40_nothingThereOrOutside() {
+    @Edge(of = "Promise 40", says = "-11;")
+    static void p40_nothingThere() {
         Run x = Run.busyFed(1).still(-11, "put", 3, 0, 9).still(-11, "put", 3, -1, 9);
-        x.outside(-12, 1, 0, 2, "put", 0, 0, 9).due(1, "put", 0, 0, 9).due(1, "put", 0, 2, 9);
+        x.does("sheet", 3, 0, 1).due(1, "put", 3, 0, 9).does("sheet", 3, -1, 1).still(-11, "put", 3, 0, 9);
+    }
+
+    @Edge(of = "Promise 40", says = "-12.")
+    static void p40_placeOutside() {
+        Run x = Run.busyFed(1).outside(-12, 1, 0, 2, "put", 0, 0, 9).due(1, "put", 0, 0, 9).due(1, "put", 0, 2, 9);
         for (int sort = 0; sort < 4; sort++) {
             x.does("sheet", 3, sort, 40).outside(-12, 1, 0, 39, "put", 3, 0, 9).due(1, "put", 3, 39, 9);
             x.does("sheet", 3, sort, 0).outside(-12, 1, 0, -1, "put", 3, 0, 9);
@@ -730,18 +742,33 @@ public final class EdgesOfPromisesTest {
             .still(BAD, "item", 4, 0, 99);
     }
 
-    @Edge(of = "Promise 41", says = "-11; -13; -12.")
-    static void p41_nothingThereOrOtherSortOrOutside() {
-        Run x = Run.busyFed(1).still(-11, "item", 3, 0, 0).still(-11, "item", 3, 3, -1);
+    @Edge(of = "Promise 41", says = "-11;")
+    static void p41_nothingThere() {
+        Run x = Run.busyFed(1).still(-11, "item", 3, 0, 0).still(-11, "item", 3, 3, -1).does("sheet", 3, 3, 1);
+        x.still(0, "item", 3, 3, 0).does("sheet", 3, -1, 1).still(-11, "item", 3, 3, 0);
+    }
+
+    @Edge(of = "Promise 41", says = "-13;")
+    static void p41_otherSort() {
+        Run x = Run.busyFed(1);
         for (int sheet = 0; sheet < 3; sheet++) {
             for (int sort = 0; sort < 4; sort++) {
-                x.still(sheet == sort ? 5 : -13, "item", sheet, sort, 0)
-                    .still(sheet == sort ? -12 : -13, "item", sheet, sort, 3);
+                x.still(sheet == sort ? 5 : -13, "item", sheet, sort, 0);
+                x.still(sheet == sort ? -12 : -13, "item", sheet, sort, 3);
             }
-            x.outside(-12, 2, 0, 2, "item", sheet, sheet, 0).still(100, "item", sheet, sheet, 2);
+        }
+        x.does("sheet", 3, 3, 0).still(-13, "item", 3, 2, 0).still(-12, "item", 3, 3, 0);
+    }
+
+    @Edge(of = "Promise 41", says = "-12.")
+    static void p41_placeOutside() {
+        Run x = Run.busyFed(1);
+        for (int sheet = 0; sheet < 3; sheet++) {
+            x.outside(-12, 2, 0, 2, "item", sheet, sheet, 0).still(5, "item", sheet, sheet, 0);
+            x.still(100, "item", sheet, sheet, 2);
         }
         x.does("sheet", 3, 3, 40).outside(-12, 2, 0, 39, "item", 3, 3, 0).still(0, "item", 3, 3, 39);
-        x.does("sheet", 3, 3, 0).outside(-12, 2, 0, -1, "item", 3, 3, 0).still(-13, "item", 3, 2, 0);
+        x.does("sheet", 3, 3, 0).outside(-12, 2, 0, -1, "item", 3, 3, 0);
     }
 
     @Edge(of = "Promise 41", says = "(An item may be as low as these, too.)")
@@ -812,15 +839,27 @@ public final class EdgesOfPromisesTest {
         x.outside(BAD, 0, 0, 3, "taken", 0, 0).outside(BAD, 0, 0, 3, "taken", 0, 10).still(0, "taken", 3, 0);
     }
 
-    @Edge(of = "Promise 43", says = "-11; -13.")
-    static void p43_nothingThereOrOfAnotherKind() {
-        Run x = Run.busy(1).still(-11, "taken", 2, 0).still(-11, "taken", 2, 5).still(-11, "taken", 2, 10)
-            .still(-11, "taken", 2, 13);
-        x.still(-13, "taken", 0, 1).still(-13, "taken", 0, 5).still(-13, "taken", 0, 10).still(-13, "taken", 0, 13);
-        x.still(-13, "taken", 1, 0).still(-13, "taken", 1, 5).still(-13, "taken", 1, 11).still(-13, "taken", 1, 13)
-            .still(3, "taken", 1, 10);
+    @Edge(of = "Promise 43", says = "-11;")
+    static void p43_nothingThere() {
+        Run x = Run.busy(1);
+        for (int as : new int[] {0, 5, 10, 13}) {
+            x.still(-11, "taken", 2, as);
+        }
         // One that is no more there is nothing, whatever it is taken for.
-        x.does("shelf", 2, 0, 0).text("", 0).still(-11, "taken", 2, 0).still(-11, "taken", 2, 10);
+        x.does("shelf", 2, 0, 0).still(0, "taken", 2, 0).text("", 0).still(-11, "taken", 2, 0).still(-11, "taken", 2, 10);
+    }
+
+    @Edge(of = "Promise 43", says = "-13.")
+    static void p43_ofAnotherSortOrKind() {
+        // One of the INMATES, of KIND 0; a row of bytes.
+        Run x = Run.busyFed(1);
+        for (int as : new int[] {1, 2, 3, 4, 5, 10, 11, 12, 13}) {
+            x.still(-13, "taken", 0, as);
+        }
+        for (int as : new int[] {0, 1, 2, 3, 4, 5, 11, 12, 13}) {
+            x.still(-13, "taken", 1, as);
+        }
+        x.still(0, "taken", 0, 0).still(3, "taken", 1, 10);
     }
 
     // ---- 44 to 46 ----
