@@ -319,7 +319,7 @@ public final class MannersGaol {
         for (int v = 0; v <= TOP_GRACE; v++) {
             tried.copy(now);
             tried.graces[inmate] = v;
-            if (tried.isOutBy(inmate, n)) {
+            if (tried.timeTo(inmate, OUT, n) != LATE) {
                 return v;
             }
         }
@@ -695,7 +695,7 @@ public final class MannersGaol {
                 tried.hosts[i] = NOBODY;
             }
         }
-        return tried.isOutBy(inmate, n);
+        return tried.timeTo(inmate, OUT, n) != LATE;
     }
 
     private boolean isFitting(Sheet told, int inmate, int grace) {
@@ -827,7 +827,8 @@ public final class MannersGaol {
         }
 
         int riteAt(int i) {
-            return isRoom(rooms[i]) ? rites[rooms[i]] : 0;
+            int room = rooms[i];
+            return room >= 0 && room < ROOMS ? rites[room] : 0;
         }
 
         int needs(int i) {
@@ -901,7 +902,10 @@ public final class MannersGaol {
             return z >>> 16;
         }
 
-        /** The fewest OCCASIONS (up to last) behind which one is in a ROOM or farther, or LATE; all goes on meanwhile. */
+        /**
+         * The fewest OCCASIONS (up to last) behind which one is in a ROOM or farther, or LATE; all goes on meanwhile.
+         * Nobody goes back, so one that is OUT by then is OUT behind last OCCASIONS, too.
+         */
         int timeTo(int i, int room, int last) {
             for (int t = 0; t <= last; t++) {
                 if (rooms[i] >= room) {
@@ -910,11 +914,6 @@ public final class MannersGaol {
                 passOccasions(1);
             }
             return LATE;
-        }
-
-        /** Nobody comes in again, so the way may end as soon as one is OUT. */
-        boolean isOutBy(int i, int n) {
-            return timeTo(i, OUT, n) != LATE;
         }
 
         int rowPart(int i, int what) {

@@ -7,7 +7,9 @@ import java.nio.file.Path;
 import java.util.ArrayList;
 import java.util.Arrays;
 import java.util.List;
+import java.util.Map;
 import java.util.Set;
+import java.util.TreeMap;
 import java.util.TreeSet;
 import java.util.regex.Matcher;
 import java.util.regex.Pattern;
@@ -23,14 +25,27 @@ public final class FaceTest {
         + "taken(int,int) act(int,int,int) trace(int) many(int) keep() again()";
 
     public static void main(String[] args) throws Exception {
+        document();
         face();
         classes();
         source();
+        methods();
         Due.end();
     }
 
     private static void holds(String what, boolean holds) {
         Due.is(what, holds ? 1 : 0, 1);
+    }
+
+    /** FACE is what DOC.md writes. */
+    private static void document() throws Exception {
+        String doc = Files.readString(Path.of("../shared/DOC.md"));
+        Matcher method = Pattern.compile("(?m)^    public (?:int|long) (\\w+)\\(([^)]*)\\);$").matcher(doc);
+        List<String> written = new ArrayList<>();
+        while (method.find()) {
+            written.add(method.group(1) + "(" + method.group(2).replaceAll(" \\w+(, |$)", "$1").replace(", ", ",") + ")");
+        }
+        holds("the face of the document: " + written, String.join(" ", written).equals(FACE));
     }
 
     private static String signature(Method m) {
@@ -104,7 +119,7 @@ public final class FaceTest {
         String code = source.replaceAll("(?s)/\\*.*?\\*/", "").replaceAll("//[^\n]*", "");
         holds("signs of ASCII", source.chars().allMatch(c -> c < 128));
         for (String word : List.of("throw", "throws", "try", "catch", "finally", "synchronized", "assert", "import",
-                "package", "native", "volatile", "transient", "strictfp", "Object", "System\\.out", "Exact")) {
+                "package", "native", "volatile", "transient", "strictfp", "Object", "System\\.out", "\\w*Exact")) {
             holds("no " + word, !Pattern.compile("\\b" + word + "\\b").matcher(code).find());
         }
         holds("no lambda", !code.contains("->") && !code.contains("::"));
@@ -116,5 +131,51 @@ public final class FaceTest {
                 line.matches("(private )?final .*") || line.matches("(sheets|shelves)\\[i\\] = .*"));
         }
         holds("the longest line", code.lines().mapToInt(String::length).max().getAsInt() <= 120);
+    }
+
+    /** Rule 11: short methods, and calls at most eight deep; methods of one name are taken for one. */
+    private static void methods() throws Exception {
+        String code = Files.readString(Path.of("src/main/java/MannersGaol.java"))
+            .replaceAll("(?s)/\\*.*?\\*/", "").replaceAll("//[^\n]*", "");
+        Map<String, String> bodies = new TreeMap<>();
+        Matcher head = Pattern.compile("(?m)^ +(?:(?:public|private|static|final) )*(?:[\\w\\[\\]]+ )?(\\w+)"
+            + "\\([^()]*\\) \\{$").matcher(code);
+        while (head.find()) {
+            if (!Set.of("if", "for", "while", "switch").contains(head.group(1))) {
+                String body = code.substring(head.end(), endOf(code, head.end()));
+                holds(head.group(1) + " is short", body.lines().count() <= 60);
+                bodies.merge(head.group(1), body, String::concat);
+            }
+        }
+        holds("the methods are found", bodies.size() > 100);
+        for (String name : bodies.keySet()) {
+            List<String> way = longestWay(bodies, name, new ArrayList<>());
+            holds("at most eight deep: " + way, way.size() <= 8);
+        }
+    }
+
+    private static int endOf(String code, int from) {
+        int open = 1;
+        int at = from;
+        while (open > 0) {
+            open += code.charAt(at) == '{' ? 1 : code.charAt(at) == '}' ? -1 : 0;
+            at++;
+        }
+        return at;
+    }
+
+    /** Of calls that stand open at once, the library's left out, and those of a method that stands open already. */
+    private static List<String> longestWay(Map<String, String> bodies, String name, List<String> before) {
+        List<String> way = new ArrayList<>(before);
+        way.add(name);
+        List<String> longest = way;
+        Matcher call = Pattern.compile("\\b(\\w+)\\(").matcher(bodies.get(name));
+        while (call.find()) {
+            if (bodies.containsKey(call.group(1)) && !way.contains(call.group(1))) {
+                List<String> on = longestWay(bodies, call.group(1), way);
+                longest = on.size() > longest.size() ? on : longest;
+            }
+        }
+        return longest;
     }
 }
